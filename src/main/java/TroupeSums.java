@@ -308,7 +308,7 @@ public final class TroupeSums {
         if (!now.sorts.hasSort(sort)) {
             return NO_NUMBER;
         }
-        now.sums.putMarks(Sums.THE_SUM, now.sums.marks);
+        now.sums.putMarks(Sums.THE_SUM);
         int members = now.sorts.normSize(sort);
         long sum = now.sorts.sumOverNorm(sort, now.sums.marks);
         return members > 0 ? sum / members : NO_NUMBER;
@@ -316,7 +316,7 @@ public final class TroupeSums {
 
     public int is(int what) {
         Sums sums = now.sums;
-        sums.putMarks(Sums.THE_SUM, sums.marks);
+        sums.putMarks(Sums.THE_SUM);
         switch (what) {
             case 0: return sums.hasNoneBelow(Sums.THE_SUM) ? 1 : 0;
             case 1: return sums.marksAre(0, 1) ? 1 : 0;
@@ -628,7 +628,8 @@ public final class TroupeSums {
         }
 
         int turn(int member, int g) {
-            return both(both(undoers.at(g), member), g);
+            int undone = table.at(undoers.at(g) * MOST_MEMBERS + member);
+            return table.at(undone * MOST_MEMBERS + g);
         }
 
         int turnAll(int bits, int g) {
@@ -1140,7 +1141,6 @@ public final class TroupeSums {
         private final Sorts sorts;
         private final LongRow numbers = new LongRow(SHELVES * MOST_SORTS);
         private final LongRow marks = new LongRow(MOST_SORTS);
-        private final LongRow otherMarks = new LongRow(MOST_SORTS);
 
         Sums(Sorts ofSorts) {
             sorts = ofSorts;
@@ -1156,13 +1156,13 @@ public final class TroupeSums {
 
         void putSingle(int shelf, int sort, long number) {
             for (int i = 0; i < sorts.count; i++) {
-                putNumber(shelf, i, i == sort ? number : 0);
+                numbers.put(shelf * MOST_SORTS + i, i == sort ? number : 0);
             }
         }
 
         void copy(int from, int to) {
             for (int i = 0; i < sorts.count; i++) {
-                putNumber(to, i, numberAt(from, i));
+                numbers.put(to * MOST_SORTS + i, numbers.at(from * MOST_SORTS + i));
             }
         }
 
@@ -1174,9 +1174,9 @@ public final class TroupeSums {
             return mark;
         }
 
-        void putMarks(int shelf, LongRow row) {
+        void putMarks(int shelf) {
             for (int j = 0; j < sorts.count; j++) {
-                row.put(j, markOf(shelf, j));
+                marks.put(j, markOf(shelf, j));
             }
         }
 
@@ -1279,27 +1279,25 @@ public final class TroupeSums {
             }
         }
 
-        /** One shelf's sum becomes the sum of it and factor times the other's; false if it is too large. */
-        boolean add(int shelf, int other, int factor) {
+        /** One shelf's sum becomes the sum of it and factor times the other's. */
+        void add(int shelf, int other, int factor) {
             for (int i = 0; i < sorts.count; i++) {
                 putNumber(shelf, i, numberAt(shelf, i) + factor * numberAt(other, i));
             }
-            return isInBounds(shelf);
         }
 
-        /** One shelf's sum becomes the product of it and the other's; false if it is too large. */
+        /** One shelf's sum becomes the product of it and the other's; false if a mark is too large. */
         boolean multiply(int shelf, int other) {
-            putMarks(shelf, marks);
-            putMarks(other, otherMarks);
             for (int j = 0; j < sorts.count; j++) {
-                long mark = Math.abs(marks.at(j));
-                if (mark != 0 && Math.abs(otherMarks.at(j)) > LARGEST / mark) {
+                long mark = markOf(shelf, j);
+                long otherMark = markOf(other, j);
+                if (mark != 0 && Math.abs(otherMark) > LARGEST / Math.abs(mark)) {
                     return false;
                 }
-                marks.put(j, marks.at(j) * otherMarks.at(j));
+                marks.put(j, mark * otherMark);
             }
             solve(shelf);
-            return isInBounds(shelf);
+            return true;
         }
     }
 
@@ -1370,7 +1368,8 @@ public final class TroupeSums {
             sums.copy(top, Sums.WORK);
             sums.putSingle(top, sums.sorts.count - 1, 1);
             for (int i = 0; i < n && i < MOST_POWER; i++) {
-                settle(sums.multiply(top, Sums.WORK));
+                boolean right = sums.multiply(top, Sums.WORK);
+                settle(right && sums.isInBounds(top));
             }
         }
 
@@ -1396,8 +1395,8 @@ public final class TroupeSums {
             pushSign(sign);
         }
 
+        /** The bracket on top goes, all that waited behind it is reckoned. */
         void close() {
-            reckon(false);
             if (signCount > 0) {
                 signCount--;
                 around--;
@@ -1413,11 +1412,13 @@ public final class TroupeSums {
                 int last = topShelf();
                 signCount--;
                 valueCount--;
+                boolean right = true;
                 if (sign == '*') {
-                    settle(sums.multiply(topShelf(), last));
+                    right = sums.multiply(topShelf(), last);
                 } else {
-                    settle(sums.add(topShelf(), last, sign == '+' ? 1 : -1));
+                    sums.add(topShelf(), last, sign == '+' ? 1 : -1);
                 }
+                settle(right && sums.isInBounds(topShelf()));
             }
         }
     }
@@ -1521,9 +1522,9 @@ public final class TroupeSums {
             value = 0;
             if (start >= length) {
                 kind = END;
-            } else if (isLetter(start)) {
+            } else if (isLetter(bytes.at(start))) {
                 readWord();
-            } else if (isDigit(start)) {
+            } else if (isDigit(bytes.at(start))) {
                 readNumber();
             } else {
                 value = bytes.at(start);
@@ -1533,7 +1534,7 @@ public final class TroupeSums {
         }
 
         private void readWord() {
-            while (next < length && isLetter(next)) {
+            while (next < length && isLetter(bytes.at(next))) {
                 value = value * LETTERS + bytes.at(next) - 'a' + 1;
                 next++;
             }
@@ -1543,12 +1544,13 @@ public final class TroupeSums {
         private void readNumber() {
             next = pastDigits(start);
             value = numberFrom(start, next);
-            kind = next - start <= MOST_DIGITS && !isLetter(next) ? NUMBER : NO_TOKEN;
+            boolean letterBehind = next < length && isLetter(bytes.at(next));
+            kind = next - start <= MOST_DIGITS && !letterBehind ? NUMBER : NO_TOKEN;
         }
 
         int pastBlanks(int from) {
             int to = from;
-            while (to < length && isBlank(to)) {
+            while (to < length && isBlank(bytes.at(to))) {
                 to++;
             }
             return to;
@@ -1556,7 +1558,7 @@ public final class TroupeSums {
 
         int pastDigits(int from) {
             int to = from;
-            while (to < length && isDigit(to)) {
+            while (to < length && isDigit(bytes.at(to))) {
                 to++;
             }
             return to;
@@ -1570,16 +1572,16 @@ public final class TroupeSums {
             return number;
         }
 
-        boolean isBlank(int index) {
-            return index < length && (bytes.at(index) == ' ' || bytes.at(index) == '\n');
+        private static boolean isBlank(int b) {
+            return b == ' ' || b == '\n';
         }
 
-        private boolean isLetter(int index) {
-            return index < length && bytes.at(index) >= 'a' && bytes.at(index) <= 'z';
+        private static boolean isLetter(int b) {
+            return b >= 'a' && b <= 'z';
         }
 
-        private boolean isDigit(int index) {
-            return index < length && bytes.at(index) >= '0' && bytes.at(index) <= '9';
+        private static boolean isDigit(int b) {
+            return b >= '0' && b <= '9';
         }
 
         private static boolean isSignByte(int b) {
@@ -1797,15 +1799,16 @@ public final class TroupeSums {
         private boolean readOperand(Troupe troupe) {
             Calculator calculator = troupe.calculator;
             int last = troupe.sorts.count - 1;
-            if (tokens.isNumber()) {
-                if (!countUnit(calculator)) {
+            boolean number = tokens.isNumber();
+            if (!number && !tokens.isWord("sort")) {
+                if (!readNamed(troupe)) {
                     return false;
                 }
+            } else if (!countUnit(calculator)) {
+                return false;
+            } else if (number) {
                 calculator.pushSingle(last, tokens.value);
-            } else if (tokens.isWord("sort")) {
-                if (!countUnit(calculator)) {
-                    return false;
-                }
+            } else {
                 tokens.step();
                 if (!tokens.isNumber()) {
                     return refuse(MISPLACED);
@@ -1814,8 +1817,6 @@ public final class TroupeSums {
                     return refuse(WRONG_NUMBER);
                 }
                 calculator.pushSingle(tokens.value, 1);
-            } else {
-                return readNamed(troupe);
             }
             tokens.step();
             return true;
@@ -1833,7 +1834,6 @@ public final class TroupeSums {
                 return false;
             }
             troupe.calculator.pushNamed(k);
-            tokens.step();
             return true;
         }
 
@@ -1852,6 +1852,7 @@ public final class TroupeSums {
                 if (calculator.brackets <= 0 || !tokens.isSign(')')) {
                     return true;
                 }
+                calculator.reckon(false);
                 calculator.close();
                 tokens.step();
             }
@@ -1866,7 +1867,7 @@ public final class TroupeSums {
                 int digits = below ? from + 1 : from;
                 int to = tokens.pastDigits(digits);
                 int many = to - digits;
-                if (many < 1 || many > MOST_MARK_DIGITS || to < tokens.length && !tokens.isBlank(to)) {
+                if (many < 1 || many > MOST_MARK_DIGITS || to < tokens.length && !Tokens.isBlank(tokens.bytes.at(to))) {
                     return false;
                 }
                 int number = tokens.numberFrom(digits, to);
