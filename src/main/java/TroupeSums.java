@@ -877,25 +877,29 @@ public final class TroupeSums {
             }
         }
 
+        // All of a subgroup take the coset of x to itself just if x's undoer turns it into H: so each
+        // such coset is met as often as H has members.
         private void fillTable() {
-            for (int i = 0; i < count; i++) {
-                int members = Integer.bitCount(firsts.at(i));
-                for (int j = 0; j < count; j++) {
-                    int taking = members > 0 ? countTurnedInto(firsts.at(j), firsts.at(i)) / members : 0;
-                    table.put(i * MOST_SORTS + j, taking);
+            for (int j = 0; j < count; j++) {
+                for (int i = 0; i < count; i++) {
+                    table.put(i * MOST_SORTS + j, 0);
+                }
+                for (int g = 0; g < group.size; g++) {
+                    countTurned(group.turnAll(firsts.at(j), g), j);
+                }
+                for (int i = 0; i < count; i++) {
+                    int members = Integer.bitCount(firsts.at(i));
+                    table.put(i * MOST_SORTS + j, members > 0 ? markAt(i, j) / members : 0);
                 }
             }
         }
 
-        // All of a subgroup take the coset of x to itself just if x's undoer turns it into H.
-        private int countTurnedInto(int bits, int whole) {
-            int turners = 0;
-            for (int g = 0; g < group.size; g++) {
-                if (isPart(group.turnAll(bits, g), whole)) {
-                    turners++;
+        private void countTurned(int turned, int j) {
+            for (int i = 0; i < count; i++) {
+                if (isPart(turned, firsts.at(i))) {
+                    table.put(i * MOST_SORTS + j, markAt(i, j) + 1);
                 }
             }
-            return turners;
         }
 
         boolean hasSort(int sort) {

@@ -80,6 +80,7 @@ public final class PromisesTest {
         due("mark", x.mark(0, 0), 1);
         due("has", x.has(0), 0);
         due("fault", x.fault(0), 0);
+        due("its place", x.fault(1), -1);
         due("undo", x.undo(), -1);
         due("named", x.named(0, 0), NO_NUMBER);
         due("NONE", TroupeSums.NONE, -1);
@@ -105,6 +106,19 @@ public final class PromisesTest {
         // "places 2;move 1 0;  ", each number's highest byte first
         due("feed", x.feed(0x706c6163, 0x65732032, 0x3b6d6f76, 0x65203120, 0x303b2020), 700);
         due("troupe", x.troupe(), 2);
+        // what stood behind the end is not there any more: "12", "x", "1234"
+        x.feed(0x31327820, 0, 0, 0, 0);
+        x.end(2);
+        due("makes of 12", x.makes(), 1);
+        due("has", x.has(1), 12);
+        x.feed(0x31323334, 0, 0, 0, 0);
+        x.end(3);
+        due("makes of 123", x.makes(), 1);
+        due("has", x.has(1), 123);
+        x.feed(0x20202020, 0, 0, 0, 0);
+        x.end(1);
+        due("makes of a blank", x.makes(), -1);
+        due("its place", x.fault(1), 1);
         due("feed of bytes above 127", x.feed(-1, 0xe9e9e9e9, 0, 0, 0), 20);
         due("troupe", x.troupe(), -1);
         due("fault(0)", x.fault(0), 1);
@@ -255,6 +269,9 @@ public final class PromisesTest {
         fault("places 3; let a = (-(-(-(-1))));", 5, 25);
         fault("places 3; let a = (-(-(-(((#", 5, 26 - 1);
         fault("places 3; let a = ((((((((;", 5, 25);
+        fault("places 3; let a = (1)+(((((((1)))))));", 5, 29);
+        fault("places 3; let a = -1+(((((((1)))))));", 5, 28);
+        fault("places 3; let a = -(-1)^2*-------1;", 5, 33);
         right("places 3; let a = ((((((1)))))) + ------1;", 1);
     }
 
@@ -604,6 +621,16 @@ public final class PromisesTest {
 
     private static void named() {
         title = "35 named, 45 uses";
+        TroupeSums alike = told("places 1;let ab=1;let ba=2;let b=3;let aab=4;let aba=5;let zzzzzz=6;let zzzzz=7;let movea=ab*ba+aab*aba;");
+        for (int k = 0; k < 7; k++) {
+            due("names of the same letters: " + k, alike.named(k, 0), k + 1);
+        }
+        due("names of the same letters: the last", alike.named(7, 0), 22);
+        fault("places 1;let a=1;b", 2, 17);
+        put(alike, "ab");
+        alike.end(1);
+        due("a name's first letter", alike.makes(), -1);
+        due("is no name", alike.fault(0), 3);
         TroupeSums x = told(THREE + "let a = 2 + sort 1; let b = a * a; let c = -(sort 2 - 1) ^ 2; let d = a - a;");
         long[][] due = {{0, 1, 0, 2}, {1, 5, 0, 4}, {0, 0, 0, -1}, {0, 0, 0, 0}};
         for (int k = 0; k < 4; k++) {
@@ -753,13 +780,17 @@ public final class PromisesTest {
         TroupeSums x = told(THREE);
         due("grows(9, 999, 1)", x.grows(9, 999, 1), 999);
         due("grows(-2, -1, 1)", x.grows(-2, -1, 1), -1999);
+        due("grows(1, -999, 1)", x.grows(1, -999, 1), -2998);
+        due("grows(1, 999, 1)", x.grows(1, 999, 1), -1999);
+        due("grows(-9, 0, 1)", x.grows(-9, 0, 1), 17991);
+        due("undo", x.undo(), 4);
         due("grows(1, 5, 3)", x.grows(1, 5, 3), 5);
         sum("grows", x, 0, -1999, 0, 5);
         int[][] wrong = {{10, 0, 0}, {-10, 0, 0}, {0, 1000, 0}, {0, -1000, 0}, {1, 1, 4}, {1, 1, -1}};
         for (int[] args : wrong) {
             due("grows of what can't be", x.grows(args[0], args[1], args[2]), NO_NUMBER);
         }
-        due("three ACTS", x.about(7), 3);
+        due("five ACTS", x.about(7), 5);
         makes(x, "10^9*10^3");
         due("beyond", x.grows(1, 1, 3), NO_NUMBER);
         due("below", x.grows(-1, -1, 3), NO_NUMBER);
