@@ -1,5 +1,3 @@
-import java.nio.charset.StandardCharsets;
-
 /** Each promise by answers worked out by hand: ordinary ones, the edges that the document names, wrong inputs. */
 public final class PromisesTest {
     private static final Check CHECK = new Check("PromisesTest");
@@ -18,11 +16,7 @@ public final class PromisesTest {
     }
 
     private static void put(TroupeSums x, String text) {
-        byte[] bytes = text.getBytes(StandardCharsets.ISO_8859_1);
-        for (int[] five : Both.fives(bytes)) {
-            x.feed(five[0], five[1], five[2], five[3], five[4]);
-        }
-        x.end(bytes.length);
+        Texts.put(x, text);
     }
 
     private static TroupeSums told(String text) {
