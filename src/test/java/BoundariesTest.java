@@ -323,7 +323,7 @@ public final class BoundariesTest {
         fault("places 1;let a=1;let aa=1;let b=aaa;", 3, 32);
         wrongValue("aa", 3, 0);
         wrongValue("aaaaaa", 3, 0);
-        for (String word : new String[] {"place", "moves", "lets", "sorts", "le", "sor", "mov", "a", "z", "zzzzzz"}) {
+        for (String word : new String[] {"place", "moves", "lets", "sorts", "le", "sor", "mov", "a", "z", "zzzzzz", "blaces", "placed", "love", "mode", "bet", "les", "port", "sore"}) {
             right("places 1;let " + word + "=1;let b=" + word + ";", 1);
         }
     }
@@ -350,6 +350,10 @@ public final class BoundariesTest {
         fault("places #", 1, 7);
         fault("places 1;move 0 #;", 1, 16);
         says("1", "2 one that can't stand there (a number of a move too many, too few: there);");
+        fault("blaces 1;", 2, 0);
+        fault("places 1;love 0;", 2, 9);
+        fault("places 1;bet a=1;", 2, 9);
+        fault("places 1;let a=port 0;", 3, 15);
         fault("places;", 2, 6);
         fault("places (", 2, 7);
         fault("places a;", 2, 7);
@@ -869,6 +873,7 @@ public final class BoundariesTest {
         refuses("orders", NONE, new int[] {-1, 0, 25, 26, 32, 33, MIN, MIN + 1, MAX}, x::orders);
         says("Promise 30", "How many MEMBERS are one turned by some MEMBER (as in 2; itself, too);");
         due("likes(0)", x.likes(0), 1);
+        due("likes of one", new TroupeSums().likes(0), 1);
         due("likes(5)", x.likes(5), 3);
         due("likes where all are alike", told(TWO).likes(1), 1);
         says("Promise 30", "NONE if there is none such.");
@@ -1178,6 +1183,10 @@ public final class BoundariesTest {
         due("character(23)", x.character(23), LARGEST);
         makes(x, "-10^9*10^3");
         due("congruence(10) of the least", x.congruence(10), -LARGEST);
+        TroupeSums one = new TroupeSums();
+        due("congruence of one", one.congruence(0), 0);
+        makes(one, "-7");
+        due("congruence of one", one.congruence(0), -7);
         due("is(2)", x.is(2), 0);
         due("is(1)", x.is(1), 0);
         due("is(0)", x.is(0), 0);
@@ -1186,9 +1195,10 @@ public final class BoundariesTest {
     private static void is() {
         says("Promise 41", "Whether THE SUM (as it is) 0: has no number below 0, 1: times itself is itself, 2: is a UNIT, 3: has a MARK 0 somewhere; 1 or 0;");
         TroupeSums x = told(THREE);
-        String[] sums = {"0", "1", "-1", "2", "sort 1", "1-sort 1", "sort 2-1", "sort 1-2", "2-sort 1", "1-sort 3", "sort 2-2", "sort 0"};
+        String[] sums = {"0", "1", "-1", "2", "sort 1", "1-sort 1", "sort 2-1", "sort 1-2", "2-sort 1", "1-sort 3", "sort 2-2", "sort 0", "sort 1-3", "-sort 0",
+            "sort 0-6"};
         int[][] is = {{1, 1, 0, 1}, {1, 1, 1, 0}, {0, 0, 1, 0}, {1, 0, 0, 0}, {1, 0, 0, 1}, {0, 0, 0, 1}, {0, 0, 1, 0}, {0, 0, 0, 0}, {0, 0, 0, 0},
-            {1, 1, 0, 1}, {0, 0, 0, 1}, {1, 0, 0, 1}};
+            {1, 1, 0, 1}, {0, 0, 0, 1}, {1, 0, 0, 1}, {0, 0, 0, 1}, {0, 0, 0, 1}, {0, 0, 0, 1}};
         for (int k = 0; k < sums.length; k++) {
             makes(x, sums[k]);
             for (int what = 0; what < 4; what++) {
