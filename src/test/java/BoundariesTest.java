@@ -4,7 +4,8 @@ import java.nio.file.Path;
 /**
  * Each sentence of the document that names a boundary (too small, too large, empty, full, a
  * wrap-around, a refused call) with a test of its own: the sentence is quoted, and looked for in the
- * document, ahead of the answers that it makes due. At the end no promise has words unquoted.
+ * document, ahead of the answers that it makes due. The terms' other sentences are quoted by
+ * Definitions. At the end no promise and no term has words unquoted.
  */
 public final class BoundariesTest {
     private static final Check CHECK = new Check("BoundariesTest");
@@ -1453,15 +1454,15 @@ public final class BoundariesTest {
         due("undo behind troupe()", x.undo(), NONE);
     }
 
-    /** What a promise says and no test has quoted. */
+    /** What a promise or a term says and no test has quoted. */
     private static void allQuoted() {
         title = "the document";
         due("promises", document.promises().size(), 47);
         for (String promise : document.promises()) {
             CHECK.holds(promise + " unquoted: " + document.unquoted(promise), document.unquoted(promise).isEmpty());
         }
-        for (String term : new String[] {"1", "3"}) {
-            System.out.println("BoundariesTest: of " + term + ". no boundary is in: " + document.unquoted(term));
+        for (String part : new String[] {"1", "2", "3", "What it is"}) {
+            CHECK.holds(part + " unquoted: " + document.unquoted(part), document.unquoted(part).isEmpty());
         }
     }
 
@@ -1500,6 +1501,7 @@ public final class BoundariesTest {
         growsAct();
         growsFar();
         undoAct();
+        Definitions.look(document, CHECK);
         allQuoted();
         CHECK.finish();
     }
